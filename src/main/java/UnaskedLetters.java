@@ -1,6 +1,9 @@
 import java.util.Arrays;
 
-/** A net of houses, their letters, and what is known of both at any minute. */
+/**
+ * A net of houses, their letters, and what is known of both at any minute. This class holds what happens in which
+ * order; the classes inside it hold houses and names, the tape and its two readers, rules, words, letters and marks.
+ */
 public final class UnaskedLetters {
     public static final int NONE = -1;
 
@@ -1237,9 +1240,14 @@ public final class UnaskedLetters {
                 case '&': return first & second;
                 case '|': return first | second;
                 case '/': return second == 0 ? 0 : first / second;
-                default: break;
+                case '+': return bounded((long) first + second);
+                case '-': return bounded((long) first - second);
+                case '*': return bounded((long) first * second);
+                default: return 0;
             }
-            long result = sign == '+' ? (long) first + second : sign == '-' ? (long) first - second : (long) first * second;
+        }
+
+        private static int bounded(long result) {
             return (int) Math.max(-MOST, Math.min(MOST, result));
         }
 

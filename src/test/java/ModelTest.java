@@ -79,6 +79,9 @@ public final class ModelTest {
                 call("name", pick(model.houses.size()), random.nextInt(3) == 0);
             }
             List<String> names = new ArrayList<>(METHODS.keySet());
+            if (seed % 8 == 0) {
+                crowd();
+            }
             while (calls < CALLS) {
                 int dice = random.nextInt(100);
                 if (dice < 18) {
@@ -109,6 +112,24 @@ public final class ModelTest {
                     call("up", pick(model.houses.size()), random.nextInt(3) > 0);
                 } else {
                     any(names.get(random.nextInt(names.size())));
+                }
+            }
+        }
+
+        /** As many houses, names and letters as there may be. */
+        private void crowd() throws Exception {
+            while (model.houses.size() < 12) {
+                call("house");
+            }
+            while (model.names.size() < 40) {
+                call("name", random.nextInt(12), random.nextInt(9) == 0);
+            }
+            while (model.letters.size() < 120) {
+                tape((random.nextBoolean() ? "p" : "q") + word() + " " + word());
+                int from = random.nextInt(40);
+                call("write", from, (from + 1 + random.nextInt(39)) % 40, random.nextBoolean(), random.nextInt(21));
+                if (model.tape.isEmpty() && random.nextInt(20) == 0) {
+                    call("minutes", 1);
                 }
             }
         }
@@ -185,7 +206,7 @@ public final class ModelTest {
         }
 
         private void tape(String text) throws Exception {
-            if (random.nextInt(12) > 0) {
+            if (!model.tape.isEmpty() && random.nextInt(12) > 0) {
                 call("end", 0);
             }
             int at = 0;

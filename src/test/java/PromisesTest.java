@@ -15,6 +15,7 @@ public final class PromisesTest {
         faultsOfRules();
         depthsOfRules();
         rulesAndForce();
+        longRules();
         worths();
         lists();
         barsByLetters();
@@ -327,6 +328,29 @@ public final class PromisesTest {
         due("twenty-one", rules(x, 0, false, 10, "b:1"), -1);
         due("it stays", x.count(13), 3);
         due("rules told", x.count(8), 20);
+        UnaskedLetters y = net();
+        due("from 0", rules(y, 2, false, 0, "t:1"), 0);
+        due("at 0 known in 0", y.force(2, false, 0, 0), 0);
+        due("at 2000", y.force(2, false, 2000, 0), 0);
+    }
+
+    private static String times(String text, int n) {
+        StringBuilder all = new StringBuilder();
+        for (int i = 0; i < n; i++) {
+            all.append(text);
+        }
+        return all.toString();
+    }
+
+    private static void longRules() {
+        due("40 clauses", thrown(times("t:0;", 39) + "t:1"), 0);
+        due("40 clauses, the last one", thrown(times("b:0;", 39) + "t:1"), 1);
+        due("78 terms", thrown("t:1" + times("+1", 75) + "=76?1"), 1);
+        due("78 atoms", thrown("t:1" + times("*1", 75) + "=1?1"), 1);
+        due("39 units", thrown("t:1=1" + times("&1=1", 38) + "?1"), 1);
+        due("39 truths", thrown("t:1=0" + times("|1=0", 37) + "|1=1?1"), 1);
+        due("the deepest", thrown("t:1=0|1=1&1=0-1+1*[1-2*[1-2*[1-2*[1-2*[1-2*[1-1*1]]]]]]|1=1&!(1=1&!(1=1&!(1=1&1=1-1*1)))?1"), 1);
+        due("full of blanks", thrown(times(" ", 100) + "t" + times(" ", 50) + ":1"), 1);
     }
 
     private static void worths() {
@@ -893,6 +917,16 @@ public final class PromisesTest {
         due("asked of another name", y.spread(0), -1);
         y.give(2, 128);
         due("the highest shop", y.spread(0), 128);
+        UnaskedLetters all = new UnaskedLetters();
+        all.house();
+        for (int i = 0; i <= 8; i++) {
+            all.name(0, false);
+        }
+        for (int i = 0; i < 8; i++) {
+            all.give(i, 1 << i);
+            write(all, 8, i, "p");
+        }
+        due("all the shops", all.spread(0), 255);
         UnaskedLetters z = net();
         z.give(2, 1);
         write(z, 0, 2, "p");
