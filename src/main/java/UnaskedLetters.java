@@ -959,12 +959,16 @@ public final class UnaskedLetters {
             tape = read;
             size = 0;
             at = 0;
+            // Blanks stand between signs alone: one ahead of all of them is a fault, and behind one a sign must follow.
+            if (tape.at(0) == ' ') {
+                return 0;
+            }
             for (int i = 0; i <= Tape.MOST; i++) {
                 if (!readClause()) {
                     return at;
                 }
                 if (ahead() == NONE) {
-                    return NONE;
+                    return tape.at(at - 1) == ' ' ? at : NONE;
                 }
                 if (!pass(';')) {
                     return at;

@@ -462,7 +462,7 @@ public final class ModelTest {
         static Grammar ofRules() {
             Grammar g = new Grammar();
             g.rule("B", "", "blank B");
-            g.rule("Start", "B Clauses B");
+            g.rule("Start", "Clauses");
             g.rule("Clauses", "Clause MoreClauses");
             g.rule("MoreClauses", "", "B ; B Clause MoreClauses");
             g.any("Label", "tbdx");
