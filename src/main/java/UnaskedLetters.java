@@ -1231,12 +1231,12 @@ public final class UnaskedLetters {
                 default:
                     int second = pop();
                     int first = pop();
-                    push(joined(sign, first, second));
+                    push(bounded(joined(sign, first, second)));
                     break;
             }
         }
 
-        private static int joined(int sign, int first, int second) {
+        private static long joined(int sign, long first, long second) {
             switch (sign) {
                 case '=': return first == second ? 1 : 0;
                 case '<': return first < second ? 1 : 0;
@@ -1244,9 +1244,9 @@ public final class UnaskedLetters {
                 case '&': return first & second;
                 case '|': return first | second;
                 case '/': return second == 0 ? 0 : first / second;
-                case '+': return bounded((long) first + second);
-                case '-': return bounded((long) first - second);
-                case '*': return bounded((long) first * second);
+                case '+': return first + second;
+                case '-': return first - second;
+                case '*': return first * second;
                 default: return 0;
             }
         }

@@ -1,10 +1,5 @@
 /** For each promise of the document: ordinary calls, the edges that it names, and wrong arguments. */
-public final class PromisesTest {
-    private static final int NO_WEIGHT = -1_000_000;
-    private static final int LEAST = Integer.MIN_VALUE;
-    private static final int MOST = Integer.MAX_VALUE;
-    private static int wrong;
-
+public final class PromisesTest extends Calls {
     public static void main(String[] args) {
         aNewObject();
         houses();
@@ -42,100 +37,7 @@ public final class PromisesTest {
         measures();
         plans();
         counts();
-        System.out.println(wrong == 0 ? "promises: all answers are as due" : wrong + " answers are not as due");
-        if (wrong != 0) {
-            System.exit(1);
-        }
-    }
-
-    // ---- helpers
-
-    private static void due(String what, int got, int want) {
-        if (got != want) {
-            wrong++;
-            System.out.println(what + ": answered " + got + ", due is " + want);
-        }
-    }
-
-    private static void due(String what, boolean got, boolean want) {
-        due(what, got ? 1 : 0, want ? 1 : 0);
-    }
-
-    /** Puts this text on the tape, in place of what is there. */
-    private static void tape(UnaskedLetters x, String text) {
-        x.end(0);
-        int[] row = new int[5];
-        for (int at = 0; at < text.length(); at += 20) {
-            for (int i = 0; i < 5; i++) {
-                row[i] = 0;
-                for (int k = 0; k < 4; k++) {
-                    int here = at + 4 * i + k;
-                    row[i] = row[i] << 8 | (here < text.length() ? text.charAt(here) : 0);
-                }
-            }
-            x.feed(row[0], row[1], row[2], row[3], row[4]);
-        }
-    }
-
-    private static int fault(String text, int sort) {
-        UnaskedLetters x = new UnaskedLetters();
-        tape(x, text);
-        return x.fault(sort);
-    }
-
-    private static int write(UnaskedLetters x, int from, int to, String text) {
-        tape(x, text);
-        return x.write(from, to, false, 0);
-    }
-
-    private static int rules(UnaskedLetters x, int of, boolean list, int from, String text) {
-        tape(x, text);
-        return x.rules(of, list, from);
-    }
-
-    private static int swap(UnaskedLetters x, String text) {
-        tape(x, text);
-        return x.swap();
-    }
-
-    /** Three houses, two names in each: 0 and 1, 2 and 3, 4 and 5; name 5 is a trap. */
-    private static UnaskedLetters net() {
-        UnaskedLetters x = new UnaskedLetters();
-        for (int i = 0; i < 3; i++) {
-            x.house();
-        }
-        for (int i = 0; i < 6; i++) {
-            x.name(i / 2, i == 5);
-        }
-        return x;
-    }
-
-    private static String word(UnaskedLetters x, int letter, int reader, int i) {
-        StringBuilder text = new StringBuilder();
-        for (int k = 0; x.read(letter, reader, i, k) != UnaskedLetters.NONE; k++) {
-            text.append((char) x.read(letter, reader, i, k));
-        }
-        return text.toString();
-    }
-
-    private static void dueWords(UnaskedLetters x, int letter, int reader, String... words) {
-        due("words of letter " + letter + " for " + reader, x.words(letter, reader), words.length);
-        for (int i = 0; i < words.length; i++) {
-            if (!word(x, letter, reader, i).equals(words[i])) {
-                wrong++;
-                System.out.println("word " + i + " of letter " + letter + " for " + reader + ": '" + word(x, letter, reader, i)
-                    + "', due is '" + words[i] + "'");
-            }
-        }
-    }
-
-    /** What the clause of label t of these rules is worth to a letter: 1 if it is thrown. */
-    private static int thrown(String rules) {
-        UnaskedLetters x = net();
-        due("rules " + rules, rules(x, 1, false, 0, rules), 0);
-        write(x, 0, 2, "p");
-        x.minutes(1);
-        return x.letter(0, 0) == 2 ? 1 : 0;
+        finish("promises");
     }
 
     // ---- promises 1 to 7
@@ -333,14 +235,6 @@ public final class PromisesTest {
         due("from 0", rules(y, 2, false, 0, "t:1"), 0);
         due("at 0 known in 0", y.force(2, false, 0, 0), 0);
         due("at 2000", y.force(2, false, 2000, 0), 0);
-    }
-
-    private static String times(String text, int n) {
-        StringBuilder all = new StringBuilder();
-        for (int i = 0; i < n; i++) {
-            all.append(text);
-        }
-        return all.toString();
     }
 
     private static void longRules() {
